@@ -228,6 +228,10 @@ public final class GenerationsTest {
                 Due.due(22, "read(0, 2, k, j)", x.read(0, 2, k, j), -9);
             }
         }
+        x.mix(0, 0, 3, 6);
+        dueRows(22, x, 0, 3, "110:130");
+        Due.due(22, "read(0, 3, 0, 0): the next number is not 0", x.read(0, 3, 0, 0), -9);
+        Due.due(22, "read(0, 3, 1, 0)", x.read(0, 3, 1, 0), -9);
         Due.due(22, "read(0, 1, 3, 0)", x.read(0, 1, 3, 0), -2);
         Due.due(22, "read(0, 1, -1, 0)", x.read(0, 1, -1, 0), -2);
         Due.due(22, "read(0, 1, 0, 3)", x.read(0, 1, 0, 3), -2);

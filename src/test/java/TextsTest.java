@@ -27,6 +27,8 @@ public final class TextsTest {
         dueText(x, 32, "5 99");
         x.letter(5, 100);
         dueText(x, 32, "5 100");
+        x.letter(5, 198);
+        dueText(x, 32, "5 198");
         x.letter(5, 205);
         dueText(x, 33, "0+5 205");
         x = new AddedLetters();
