@@ -9,7 +9,7 @@ import java.util.TreeSet;
 
 /** Random runs, each answer against a plain model that counts everything out. The runs are always the same. */
 public final class ModelTest {
-    private static final int RUNS = 400, CALLS = 512;
+    private static final int RUNS = 160, CALLS = 512;
     private static final int UNKNOWN = -1, OUTSIDE = -2, STATE = -3, FULL = -4, NONE = -9;
     private static final String[] WORDS = {"two", "three", "five", "seven", "tw", "sevens"};
 
@@ -480,13 +480,14 @@ public final class ModelTest {
     private static final Map<String, Integer> PROMISES = new HashMap<>();
 
     private static int[] args(Random random, Model model, String call) {
-        int newest = model.begun - random.nextInt(4);
-        int node = spread(random, 0, 3);
+        int g = someGeneration(random, model);
+        int node = random.nextInt(3) == 0 ? 0 : spread(random, 0, 3);
+        int other = random.nextInt(12) == 0 ? spread(random, 0, 3) : (node & 3) + 1 + random.nextInt(3) & 3;
         switch (call) {
             case "letter": return new int[] {spread(random, 0, 9), spread(random, 0, 255)};
             case "drop": return new int[] {spread(random, 0, 9)};
             case "has": return new int[] {spread(random, 0, 7), spread(random, 0, 9), spread(random, 0, 1)};
-            case "want": return new int[] {spread(random, 0, 9), spread(random, 0, 7)};
+            case "want": return somePair(random, model);
             case "air": return new int[] {random.nextInt(4) == 0 ? 255 : spread(random, 0, 255)};
             case "most": return new int[] {spread(random, 1, 10)};
             case "entry": return new int[] {spread(random, 0, Math.max(0, model.queue.size() - 1)), spread(random, 0, 1)};
@@ -497,14 +498,14 @@ public final class ModelTest {
             case "serve": return new int[] {random.nextInt(3) > 0 ? 1 : spread(random, 0, 16)};
             case "key": return new int[] {spread(random, 0, 127)};
             case "open": return new int[] {spread(random, 1, 5), random.nextInt()};
-            case "rank": case "forAll": return new int[] {newest, node};
-            case "row": return new int[] {newest, node, spread(random, 0, 3), spread(random, 0, 7)};
-            case "read": return new int[] {newest, node, spread(random, 0, 4), spread(random, 0, 2)};
-            case "mix": return new int[] {newest, node, spread(random, 0, 3), spread(random, 0, 16806)};
-            case "draw": case "fresh": return new int[] {newest, node, spread(random, 0, 3)};
+            case "rank": case "forAll": return new int[] {g, node};
+            case "row": return new int[] {g, node, spread(random, 0, 3), spread(random, 0, 7)};
+            case "read": return new int[] {g, node, spread(random, 0, 4), spread(random, 0, 2)};
+            case "mix": return new int[] {g, node, other, someMix(random, model)};
+            case "draw": case "fresh": return new int[] {g, node, other};
             case "opened": return new int[] {spread(random, 0, 2)};
             case "text": return new int[] {someSet(random, model), random.nextInt(5) == 0 ? -1 : spread(random, 0, 22)};
-            case "rows": return new int[] {newest, node, random.nextInt(5) == 0 ? -1 : spread(random, 0, 50)};
+            case "rows": return new int[] {g, node, random.nextInt(5) == 0 ? -1 : spread(random, 0, 50)};
             case "many": return new int[] {spread(random, 0, 8)};
             default: return new int[0];
         }
@@ -521,6 +522,37 @@ public final class ModelTest {
         return from + random.nextInt(to - from + 1);
     }
 
+    private static int someGeneration(Random random, Model model) {
+        boolean open = !model.gens.isEmpty() && random.nextInt(15) > 0;
+        return open ? model.gens.get(random.nextInt(model.gens.size())).number : model.begun - random.nextInt(5);
+    }
+
+    /** Mostly a LETTER and a STATION that lacks it. */
+    private static int[] somePair(Random random, Model model) {
+        int[] pair = {spread(random, 0, 9), spread(random, 0, 7)};
+        for (int tries = 0; tries < 6; tries++) {
+            boolean there = Model.in(pair[1], 0, 7) && model.bodies.containsKey(pair[0]);
+            if (there && !model.held.get(pair[1]).contains(pair[0])) {
+                break;
+            }
+            pair[0] = spread(random, 0, 9);
+            pair[1] = spread(random, 0, 7);
+        }
+        return pair;
+    }
+
+    /** Often of one ROW or two, so that NODES learn slowly and what they know lies across one another. */
+    private static int someMix(Random random, Model model) {
+        if (random.nextInt(3) == 0) {
+            return spread(random, 0, 16806);
+        }
+        int m = 0;
+        for (int k = random.nextInt(2); k < 2; k++) {
+            m += (1 + random.nextInt(model.p - 1)) * (int) Math.pow(model.p, random.nextInt(5));
+        }
+        return Math.min(m, 16806);
+    }
+
     private static int someSet(Random random, Model model) {
         if (random.nextInt(12) == 0) {
             return spread(random, 0, 1023);
@@ -534,12 +566,14 @@ public final class ModelTest {
         return set;
     }
 
-    private static final String[] RELAY = {"letter", "letter", "has", "has", "has", "has", "has", "want", "want", "want",
-        "want", "air", "most", "entry", "having", "reads", "sum", "sum", "best", "best", "send", "serve", "text",
-        "text", "many"};
-    private static final String[] NODES = {"open", "open", "mix", "mix", "mix", "mix", "draw", "draw", "rank", "row",
-        "row", "read", "read", "fresh", "fresh", "forAll", "forAll", "sweep", "opened", "rows", "rows", "many"};
-    private static final String[] SELDOM = {"drop", "drop", "anew", "key", "wipe", "word", "sweep", "TYPE"};
+    private static final String[] RELAY = {"letter", "letter", "has", "has", "has", "has", "want", "want", "want",
+        "want", "want", "want", "want", "want", "most", "entry", "having", "reads", "sum", "sum", "best", "best",
+        "best", "text", "text", "many"};
+    private static final String[] NODES = {"open", "open", "mix", "mix", "mix", "mix", "draw", "rank", "row",
+        "row", "read", "read", "fresh", "fresh", "fresh", "forAll", "forAll", "forAll", "sweep", "opened", "rows",
+        "rows", "many"};
+    private static final String[] SELDOM = {"air", "air", "send", "send", "serve", "serve", "drop", "key", "wipe",
+        "word", "sweep"};
 
     private static void check(int run, StringBuilder log, AddedLetters x, Model model, String call, int... v) {
         log.append(call).append(java.util.Arrays.toString(v)).append(' ');
@@ -551,32 +585,76 @@ public final class ModelTest {
         Due.due(PROMISES.get(call), "run " + run + ": " + call + java.util.Arrays.toString(v), got, want);
     }
 
-    private static void run(int number) {
-        Random random = new Random(number);
-        AddedLetters x = new AddedLetters();
-        Model model = new Model();
-        StringBuilder log = new StringBuilder();
-        int weight = random.nextInt(3);
-        int calls = 0;
-        // the first word by turns, so that each FIELD has its share
-        for (char sign : WORDS[number % 4].toCharArray()) {
-            check(number, log, x, model, "key", sign);
-            calls++;
+    /** Calls of one run on a new object, and on the model. */
+    private static final class Run {
+        final int number;
+        final Random random;
+        final AddedLetters x = new AddedLetters();
+        final Model model = new Model();
+        final StringBuilder log = new StringBuilder();
+        int calls;
+
+        Run(int number) {
+            this.number = number;
+            random = new Random(number);
         }
-        check(number, log, x, model, "word");
-        for (calls++; calls < CALLS - 8; calls++) {
-            String[] from = random.nextInt(25) == 0 ? SELDOM : random.nextInt(3) < weight + (weight == 0 ? 0 : 1) ? NODES : RELAY;
-            String call = from[random.nextInt(from.length)];
-            if (!call.equals("TYPE")) {
-                check(number, log, x, model, call, args(random, model, call));
-            } else if (random.nextInt(4) == 0) {
-                check(number, log, x, model, "wipe");
-                for (char sign : WORDS[random.nextInt(WORDS.length)].toCharArray()) {
-                    check(number, log, x, model, "key", sign);
-                    calls++;
-                }
-                check(number, log, x, model, "word");
+
+        void call(String call, int... v) {
+            if (calls < CALLS) {
                 calls++;
+                check(number, log, x, model, call, v);
+            }
+        }
+
+        void tell(String word) {
+            call("wipe");
+            for (char sign : word.toCharArray()) {
+                call("key", sign);
+            }
+            call("word");
+        }
+
+        /** Much is there and much was overheard, so that long SUMS are worth it. */
+        void fill() {
+            for (int l = 0; l < 10; l++) {
+                call("letter", l, random.nextInt(256));
+                for (int s = 0; s < 8; s++) {
+                    if (random.nextInt(4) > 0) {
+                        call("has", s, l, 1);
+                    }
+                }
+            }
+            call("most", 1 + random.nextInt(10));
+        }
+
+        void some(String[] from) {
+            String call = from[random.nextInt(from.length)];
+            call(call, args(random, model, call));
+        }
+    }
+
+    private static void run(int number) {
+        Run run = new Run(number);
+        // the first word by turns, so that each FIELD has its share
+        run.tell(WORDS[number % 4]);
+        int nodes = run.random.nextInt(3);
+        boolean full = nodes < 2 && run.random.nextInt(4) > 0;
+        if (full) {
+            run.fill();
+        }
+        while (run.calls < CALLS) {
+            int kind = run.random.nextInt(200);
+            if (kind == 0) {
+                run.tell(WORDS[run.random.nextInt(WORDS.length)]);
+            } else if (kind == 1) {
+                run.call("anew");
+                if (full) {
+                    run.fill();
+                }
+            } else if (kind < 16) {
+                run.some(SELDOM);
+            } else {
+                run.some(run.random.nextInt(2) < nodes ? NODES : RELAY);
             }
         }
     }
