@@ -117,12 +117,12 @@ public final class FaceTest {
         }
     }
 
-    /** What 512 calls make, in bytes: all calls of a run live in one room, so none makes objects of its own. */
+    /** What some 400 calls make, in bytes: all calls of a run live in one room, so none makes objects of its own. */
     private static void room() {
         var threads = (com.sun.management.ThreadMXBean) ManagementFactory.getThreadMXBean();
+        // a first round on another object, so that what the machine loads is loaded
+        long sum = callAll(new AddedLetters());
         AddedLetters x = new AddedLetters();
-        // a first round, so that what the machine loads is loaded
-        long sum = callAll(x);
         long before = threads.getCurrentThreadAllocatedBytes();
         sum += callAll(x);
         long made = threads.getCurrentThreadAllocatedBytes() - before;

@@ -9,7 +9,7 @@ import java.util.TreeSet;
 
 /** Random runs, each answer against a plain model that counts everything out. The runs are always the same. */
 public final class ModelTest {
-    private static final int RUNS = 160, CALLS = 512;
+    private static final int RUNS = 160;
     private static final int UNKNOWN = -1, OUTSIDE = -2, STATE = -3, FULL = -4, NONE = -9;
     private static final String[] WORDS = {"two", "three", "five", "seven", "tw", "sevens"};
 
@@ -428,41 +428,6 @@ public final class ModelTest {
         }
     }
 
-    private static int ask(AddedLetters x, String call, int[] v) {
-        switch (call) {
-            case "letter": return x.letter(v[0], v[1]);
-            case "drop": return x.drop(v[0]);
-            case "has": return x.has(v[0], v[1], v[2]);
-            case "want": return x.want(v[0], v[1]);
-            case "air": return x.air(v[0]);
-            case "most": return x.most(v[0]);
-            case "anew": return x.anew();
-            case "entry": return x.entry(v[0], v[1]);
-            case "having": return x.having(v[0]);
-            case "reads": return x.reads(v[0], v[1]);
-            case "sum": return x.sum(v[0], v[1]);
-            case "best": return x.best();
-            case "send": return x.send(v[0]);
-            case "serve": return x.serve(v[0]);
-            case "key": return x.key(v[0]);
-            case "wipe": return x.wipe();
-            case "word": return x.word();
-            case "open": return x.open(v[0], v[1]);
-            case "rank": return x.rank(v[0], v[1]);
-            case "row": return x.row(v[0], v[1], v[2], v[3]);
-            case "read": return x.read(v[0], v[1], v[2], v[3]);
-            case "mix": return x.mix(v[0], v[1], v[2], v[3]);
-            case "draw": return x.draw(v[0], v[1], v[2]);
-            case "fresh": return x.fresh(v[0], v[1], v[2]);
-            case "forAll": return x.forAll(v[0], v[1]);
-            case "sweep": return x.sweep();
-            case "opened": return x.opened(v[0]);
-            case "text": return x.text(v[0], v[1]);
-            case "rows": return x.rows(v[0], v[1], v[2]);
-            default: return x.many(v[0]);
-        }
-    }
-
     private static int due(Model model, String call, int[] v) {
         switch (call) {
             case "letter": case "drop": case "has": case "want": case "air": case "most": case "anew":
@@ -476,8 +441,6 @@ public final class ModelTest {
                 return model.field(call, v);
         }
     }
-
-    private static final Map<String, Integer> PROMISES = new HashMap<>();
 
     private static int[] args(Random random, Model model, String call) {
         int g = someGeneration(random, model);
@@ -575,24 +538,23 @@ public final class ModelTest {
     private static final String[] SELDOM = {"air", "air", "send", "send", "serve", "serve", "drop", "key", "wipe",
         "word", "sweep"};
 
-    private static void check(int run, StringBuilder log, AddedLetters x, Model model, String call, int... v) {
-        log.append(call).append(java.util.Arrays.toString(v)).append(' ');
-        int got = ask(x, call, v);
+    private static void check(int run, StringBuilder log, Calls x, Model model, String call, int... v) {
+        log.append(Calls.told(call, v)).append(' ');
+        int got = x.ask(call, v);
         int want = due(model, call, v);
         if (got != want) {
             System.out.println("run " + run + ": " + log);
         }
-        Due.due(PROMISES.get(call), "run " + run + ": " + call + java.util.Arrays.toString(v), got, want);
+        Due.due(Calls.promiseOf(call), "run " + run + ": " + Calls.told(call, v), got, want);
     }
 
     /** Calls of one run on a new object, and on the model. */
     private static final class Run {
         final int number;
         final Random random;
-        final AddedLetters x = new AddedLetters();
+        final Calls x = new Calls();
         final Model model = new Model();
         final StringBuilder log = new StringBuilder();
-        int calls;
 
         Run(int number) {
             this.number = number;
@@ -600,8 +562,7 @@ public final class ModelTest {
         }
 
         void call(String call, int... v) {
-            if (calls < CALLS) {
-                calls++;
+            if (x.made() < Calls.LIMIT) {
                 check(number, log, x, model, call, v);
             }
         }
@@ -642,7 +603,7 @@ public final class ModelTest {
         if (full) {
             run.fill();
         }
-        while (run.calls < CALLS) {
+        while (run.x.made() < Calls.LIMIT) {
             int kind = run.random.nextInt(200);
             if (kind == 0) {
                 run.tell(WORDS[run.random.nextInt(WORDS.length)]);
@@ -660,12 +621,6 @@ public final class ModelTest {
     }
 
     public static void main(String[] args) {
-        String[] calls = {"letter", "drop", "has", "want", "air", "most", "anew", "entry", "having", "reads", "sum",
-            "best", "send", "serve", "key", "wipe", "word", "open", "rank", "row", "read", "mix", "draw", "fresh",
-            "forAll", "sweep", "opened", "text", "rows", "many"};
-        for (int k = 0; k < calls.length; k++) {
-            PROMISES.put(calls[k], k + 2);
-        }
         int runs = args.length > 0 ? Integer.parseInt(args[0]) : RUNS;
         for (int number = 0; number < runs; number++) {
             run(number);
