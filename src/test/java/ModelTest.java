@@ -10,6 +10,7 @@ import java.util.TreeSet;
 /** Random runs, each answer against a plain model that counts everything out. The runs are always the same. */
 public final class ModelTest {
     private static final int RUNS = 160;
+    private static final int TIES_FROM = 1_000_000;
     private static final int UNKNOWN = -1, OUTSIDE = -2, STATE = -3, FULL = -4, NONE = -9;
     private static final String[] WORDS = {"two", "three", "five", "seven", "tw", "sevens"};
 
@@ -620,10 +621,40 @@ public final class ModelTest {
         }
     }
 
+    /**
+     * A full QUEUE over much that was overheard: in one of some thirty of these states the SUM of the fewest LETTERS
+     * isn't the least number among those that serve as many, which the other runs seldom come to.
+     */
+    private static void ties(int number) {
+        Run run = new Run(TIES_FROM + number);
+        int letters = 6 + run.random.nextInt(5);
+        for (int l = 0; l < letters; l++) {
+            run.call("letter", l, l);
+            for (int s = 0; s < 8; s++) {
+                if (run.random.nextInt(4) > 0) {
+                    run.call("has", s, l, 1);
+                }
+            }
+        }
+        for (int tries = 0; tries < 150; tries++) {
+            run.call("want", run.random.nextInt(letters), run.random.nextInt(8));
+        }
+        for (int most = 1; most <= 10; most++) {
+            run.call("most", most);
+            run.call("best");
+        }
+        for (int k = 0; k < 6; k++) {
+            run.call("air", run.random.nextInt(256) | run.random.nextInt(256));
+            run.call("best");
+            run.call("serve", 1);
+        }
+    }
+
     public static void main(String[] args) {
         int runs = args.length > 0 ? Integer.parseInt(args[0]) : RUNS;
         for (int number = 0; number < runs; number++) {
             run(number);
+            ties(number);
         }
         Due.end();
     }

@@ -24,6 +24,7 @@ public final class SumsEdgesTest {
         bestIsForTheFirstInAir();
         bestServesTheMost();
         bestOfTheFewest();
+        bestOfTheFewestIsAGreaterNumber();
         bestOfTheLeast();
         bestAloneIsAlwaysThere();
         sendToNobody();
@@ -332,7 +333,7 @@ public final class SumsEdgesTest {
         x.due("best", 1);
     }
 
-    /** Part 2: "of several the one with the fewest LETTERS", though it is the greater number. */
+    /** Part 2: "of several the one with the fewest LETTERS": what more LETTERS serve nobody more. */
     private static void bestOfTheFewest() {
         Calls x = new Calls().letters(10).give(0, 511);
         x.ask("want", 9, 0);
@@ -341,10 +342,31 @@ public final class SumsEdgesTest {
         x.ask("want", 8, 1);
         x.give(1, 512);
         x.due(13, "two LETTERS, not more", "best", 768);
-        // 0 and 1 together serve as many as 8 does: STATION 1 lacks 0 of them
         x.ask("has", 1, 1, 1);
         x.ask("want", 0, 1);
         x.due(13, "two of least number, not three", "best", 513);
+    }
+
+    /** Part 2: the fewest LETTERS come ahead of the least number: 19 is less than 24, but has three LETTERS. */
+    private static void bestOfTheFewestIsAGreaterNumber() {
+        Calls x = new Calls().letters(5).give(0, 0b01011).give(1, 0b10010).give(2, 0b10001);
+        x.give(3, 0b10000).give(4, 0b10000);
+        x.ask("want", 4, 0);
+        x.ask("want", 0, 1);
+        x.ask("want", 1, 2);
+        x.due(13, "LETTERS 0, 1, 4 serve three", "best", 0b10011);
+        x.ask("want", 3, 3);
+        x.due(13, "still, for 3 and 4 serve two", "best", 0b10011);
+        x.ask("want", 3, 4);
+        x.due("sum", 3, 0b10011, 1);
+        x.due("sum", 3, 0b11000, 1);
+        x.due(13, "3 and 4 serve three, too", "best", 0b11000);
+        x.ask("air", 0b11101111);
+        x.due(13, "STATION 4 hears nothing", "best", 0b10011);
+        x.ask("most", 2);
+        x.due(13, "of pairs that serve two the least", "best", 0b10001);
+        x.ask("air", 255);
+        x.due(13, "the pair that serves three", "best", 0b11000);
     }
 
     /** Part 2: "of these the least as a number". */
