@@ -45,6 +45,7 @@ public final class GenerationsEdgesTest {
         forAllOfNoSuchNodes();
         forAllLeavesOutWhoCannotRise();
         forAllOfNoneForAll();
+        forAllOfThreeRows();
         forAllAtItsGreatest();
         sweepNoneToThree();
         doneNeedsAllFour();
@@ -699,7 +700,7 @@ public final class GenerationsEdgesTest {
     }
 
     /** 26: the least m is great: all need the last ROW, and others besides. */
-    private static void forAllAtItsGreatest() {
+    private static void forAllOfThreeRows() {
         for (int f = 0; f < 4; f++) {
             int p = FIELDS[f];
             Calls x = open(WORDS[f], 5, 0);
@@ -715,6 +716,23 @@ public final class GenerationsEdgesTest {
             x.due("forAll", due, 0, 0);
             x.due(26, "it raises NODE 1", "mix", 1, 0, 0, 1, due);
             x.due(26, "the two others", "forAll", power(p, 3) + power(p, 2), 0, 0);
+        }
+    }
+
+    /** 26: the least m is greater still: of ROW 3 neither none nor one time will do; by two there is no more. */
+    private static void forAllAtItsGreatest() {
+        for (int f = 0; f < 4; f++) {
+            int p = FIELDS[f];
+            Calls x = open(WORDS[f], 5, 0);
+            for (int node = 1; node < 4; node++) {
+                for (int i = 0; i < 3; i++) {
+                    x.ask("mix", 0, 0, node, power(p, i));
+                }
+            }
+            x.ask("mix", 0, 0, 1, power(p, 4));
+            x.ask("mix", 0, 0, 2, power(p, 4) + power(p, 3));
+            x.ask("mix", 0, 0, 3, power(p, 3));
+            x.due("forAll", p == 2 ? NONE : power(p, 4) + 2 * power(p, 3), 0, 0);
         }
     }
 
